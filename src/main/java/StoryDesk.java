@@ -13,6 +13,8 @@ public final class StoryDesk {
   private static final int MOST_WORKERS = 3;
   private static final int MOST_MOVES = 40;
   private static final int FIRST_LETTER = 100;
+  private static final int NONE_FITS = -1;
+  private static final int SEVERAL_FIT = -2;
 
   private static final int PASSED = 0;
   private static final int SKIPPED = 1;
@@ -197,11 +199,7 @@ public final class StoryDesk {
     if (letter) {
       return cases.stepText.at(what - FIRST_LETTER);
     }
-    int fitting = fittingCount();
-    if (what == 3) {
-      return fitting;
-    }
-    return fitting == 0 ? -1 : fitting > 1 ? -2 : firstFitting();
+    return what == 2 ? boundDefinition() : fittingCount();
   }
 
   public int argument(int story, int step, int k) throws IndexOutOfBoundsException, UnsupportedOperationException {
@@ -209,15 +207,16 @@ public final class StoryDesk {
       throw new IndexOutOfBoundsException();
     }
     cases.fillStep(cases.all[story], step);
-    if (fittingCount() != 1) {
+    int bound = boundDefinition();
+    if (bound < 0) {
       throw new UnsupportedOperationException();
     }
-    Expression bound = definitions[firstFitting()];
-    bound.placeArguments(cases.stepText);
-    if (!bound.hasArgument(k)) {
+    Expression expression = definitions[bound];
+    if (!expression.hasArgument(k)) {
       throw new IndexOutOfBoundsException();
     }
-    return bound.begins[k] * 100 + bound.lengths[k];
+    expression.placeArguments(cases.stepText);
+    return expression.begins[k] * 100 + expression.lengths[k];
   }
 
   public int cell(int story, int step, int r, int c, int i) throws IndexOutOfBoundsException {
@@ -309,12 +308,18 @@ public final class StoryDesk {
     return fitting;
   }
 
-  private int firstFitting() {
-    int first = 0;
-    while (first < definitionCount - 1 && !definitions[first].fits(cases.stepText)) {
-      first++;
+  /** The definition that fits the step's text alone; NONE_FITS or SEVERAL_FIT if there is none such. */
+  private int boundDefinition() {
+    int found = NONE_FITS;
+    for (int i = 0; i < definitionCount; i++) {
+      if (definitions[i].fits(cases.stepText)) {
+        if (found >= 0) {
+          return SEVERAL_FIT;
+        }
+        found = i;
+      }
     }
-    return first;
+    return found;
   }
 
   private void move(Worker worker) {
@@ -372,12 +377,11 @@ public final class StoryDesk {
 
   private void doStep(Worker worker, Case one) {
     cases.fillStep(one, worker.next);
-    int fitting = fittingCount();
+    int bound = boundDefinition();
     int status = SKIPPED;
-    if (fitting != 1) {
-      status = fitting == 0 ? UNDEFINED : AMBIGUOUS;
+    if (bound < 0) {
+      status = bound == NONE_FITS ? UNDEFINED : AMBIGUOUS;
     } else if (worker.worst == PASSED) {
-      int bound = firstFitting();
       definitions[bound].placeArguments(cases.stepText);
       status = scripts.perform(definitionScripts[bound], worker, definitions[bound], cases);
     }
@@ -1110,6 +1114,9 @@ public final class StoryDesk {
       open[elements] = 1L << text.length;
       for (int e = elements - 1; e >= 0; e--) {
         open[e] = kinds[e] == CHOICE ? openBeforeChoice(e, text) : openBeforeParameter(e, text);
+        if (open[e] == 0) {
+          return false;
+        }
       }
       return (open[0] & 1L) == 1L;
     }
@@ -1117,8 +1124,9 @@ public final class StoryDesk {
     private long openBeforeChoice(int e, Letters text) {
       long before = 0;
       for (int c = firstChoices[e]; c < firstChoices[e + 1]; c++) {
-        for (int p = 0; p + choiceLength(c) <= text.length; p++) {
-          if (isOpen(e + 1, p + choiceLength(c)) && standsAt(c, text, p)) {
+        long ways = open[e + 1] >>> choiceLength(c);
+        for (int p = 0; p < text.length + 1 && ways >>> p != 0; p++) {
+          if ((ways >>> p & 1L) == 1L && standsAt(c, text, p)) {
             before |= 1L << p;
           }
         }
@@ -1128,16 +1136,12 @@ public final class StoryDesk {
 
     private long openBeforeParameter(int e, Letters text) {
       long before = 0;
-      for (int p = 0; open[e + 1] != 0 && p < text.length; p++) {
+      for (int p = 0; p < text.length; p++) {
         if ((endsOf(kinds[e], text, p) & open[e + 1]) != 0) {
           before |= 1L << p;
         }
       }
       return before;
-    }
-
-    private boolean isOpen(int e, int p) {
-      return (open[e] >>> p & 1L) == 1L;
     }
 
     private boolean standsAt(int choice, Letters text, int at) {
@@ -1198,7 +1202,7 @@ public final class StoryDesk {
     private int endOfChoice(int e, Letters text, int at) {
       for (int c = firstChoices[e]; c < firstChoices[e + 1]; c++) {
         int end = at + choiceLength(c);
-        if (end <= text.length && isOpen(e + 1, end) && standsAt(c, text, at)) {
+        if (end <= text.length && (open[e + 1] >>> end & 1L) == 1L && standsAt(c, text, at)) {
           return end;
         }
       }

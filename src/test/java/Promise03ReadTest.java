@@ -100,7 +100,9 @@ public final class Promise03ReadTest {
     t.is("no second BACKGROUND", t.read(x, "F:\nB:\nG a\nB:"), 1);
     t.is("no second FEATURE", t.read(x, "F:\nF:"), 1);
     t.is("no blank, no STEP", t.read(x, "F:\nS:\nG a\nG"), 1);
+    t.is("blanks at the end do not make it one", t.read(x, "F:\nS:\nG a\nG  \n"), 1);
     t.is("no STEP by its sign alone", t.read(x, "F:\nS:\nG a\nGa"), 1);
+    t.is("a second STEP of a BACKGROUND leaves the state", t.read(x, "F:\nB:\nG a\nG b\n|a|\nE:"), 1);
     t.is("small letters are OTHER", t.read(x, "f:"), 2);
     t.is("a colon must follow directly", t.read(x, "F :"), 2);
   }
@@ -134,9 +136,30 @@ public final class Promise03ReadTest {
     t.is("a RULE's BACKGROUND alone", t.stepText(y, 0, 0) + t.stepText(y, 0, 1), "ra");
     t.is("tables are those of their steps", y.step(0, 0, 1) * 10 + y.step(0, 1, 1), 12);
     t.is("cell", t.cellText(y, 0, 1, 1, 0), "3");
-    StoryDesk z = t.told("F:\nS:\nG old\nR:\nB:\nG x\nS:\nG y");
-    t.read(z, "F:\nS:\nG a\nR:\nS:\nG b");
-    t.is("nothing is left of an older reading", z.story(0, 0) * 10 + z.story(1, 0), 11);
+    StoryDesk w = t.told("F:\nB:\nG a\nG b\nS:\nG x\nR:\nB:\nG c\nG d\nG e\nS:\nG f\nG g\nR:\nB:\nG h\nS:\nG i");
+    String[] due = {"abx", "abcdefg", "abhi"};
+    for (int story = 0; story < due.length; story++) {
+      t.is("steps of " + story, w.story(story, 0), due[story].length());
+      for (int step = 0; step < due[story].length(); step++) {
+        t.is("step " + step + " of " + story, w.step(story, step, 100), due[story].charAt(step));
+      }
+    }
+    olderReadings(t);
+  }
+
+  private static void olderReadings(Check t) {
+    StoryDesk x = t.told("F:\nS:\nG old\nR:\nB:\nG x\nS:\nG y\nE:\n|n|\n|1|\n@a\nE:\n|m|\n|2|");
+    t.is("others", t.read(x, "F:\nS:\nG a\nR:\nS:\nG b\nE:\n|k|\n|3|"), 0);
+    t.is("nothing is left of an older reading", x.story(0, 0) * 10 + x.story(1, 0), 11);
+    t.is("cases", x.look(2), 2);
+    t.is("the ROW", x.story(1, 3), 9);
+    t.is("its tags", x.story(1, 1), 0);
+    t.is("tags that wait at the end", t.read(x, "F:\n@a"), 1);
+    t.is("are forgotten", t.read(x, "F:\nB:\nG a\nS:"), 0);
+    t.is("and belong to nothing", x.story(0, 1), 0);
+    for (int i = 0; i < 6; i++) {
+      t.is("what counted in an older reading does not count", t.read(x, "F:\nR:\nS:\nG a\n||\nE:\n||\nE:\n||\nE:\n||"), 0);
+    }
   }
 
   private static void caseCounts(Check t) {
@@ -147,6 +170,11 @@ public final class Promise03ReadTest {
     t.is("one for each ROW", x.look(2), 4);
     t.is("in order", x.story(0, 3) * 10000 + x.story(1, 3) * 100 + x.story(2, 3), 50910);
     t.is("then the next SCENARIO", x.story(3, 2), 11);
+    StoryDesk z = t.told("F:\nS:\nG <a>\nE:\n|a|\n|1|\nS:\nG <a>\nS:\nG <a>\nE:\n|a|\n|2|\nE:\n|a|\n|3|");
+    String[] texts = {"1", "<a>", "2", "3"};
+    for (int story = 0; story < texts.length; story++) {
+      t.is("each SCENARIO has its own EXAMPLES", t.stepText(z, story, 0), texts[story]);
+    }
     StringBuilder many = new StringBuilder("F:\nS:\nG <a>\nE:\n|a|");
     for (int i = 0; i < 26; i++) {
       many.append("\n|").append((char) ('a' + i)).append('|');

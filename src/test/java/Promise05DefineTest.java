@@ -7,6 +7,7 @@ public final class Promise05DefineTest {
     parameters(t);
     scripts(t);
     room(t);
+    nothingIsLeft(t);
     duringARun(t);
     t.end();
   }
@@ -91,6 +92,26 @@ public final class Promise05DefineTest {
     t.is("the refused ones fit nothing", x.step(0, 0, 3), 0);
     t.is("the first one is there", x.step(0, 1, 2), 0);
     t.is("the last one is there", x.step(0, 2, 2), 11);
+  }
+
+  /** What was refused leaves nothing in the one that comes to its place. */
+  private static void nothingIsLeft(Check t) {
+    StoryDesk x = t.told("F:\nS:\nG b7\nG a\nG ab");
+    String[] wrong = {"a{i}{w}(c", "a/b/c/", "(x)(y)z/", "{i}{i}{i}{i}{i}{i}{i}", "ab {d}}", "abc\\"};
+    for (String text : wrong) {
+      t.put(x, text);
+      t.wrongArgument("refused " + text, () -> x.define(0));
+    }
+    t.is("well formed", t.define(x, "b{i}", 0), 0);
+    t.is("fits", x.step(0, 0, 2), 0);
+    t.is("its argument", x.argument(0, 0, 0), 101);
+    t.outOfBounds("its only one", () -> x.argument(0, 0, 1));
+    t.put(x, "ab/");
+    t.wrongArgument("refused", () -> x.define(0));
+    t.is("well formed", t.define(x, "a", 0), 1);
+    t.is("fits", x.step(0, 1, 2), 1);
+    t.is("does not fit", x.step(0, 2, 2), -1);
+    t.is("six parameters behind six of a refused one", t.define(x, "{i}{i}{i}{i}{i}{i}", 0), 2);
   }
 
   private static void duringARun(Check t) {

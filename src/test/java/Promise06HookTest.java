@@ -29,7 +29,7 @@ public final class Promise06HookTest {
     String[] ill = {
       "q", "A", "@a", "ab", "a b", "!", "&", "|", "a&", "&a", "a|", "|a", "a&&b", "a||b", "a&|b", "()", "( )", "(a", "a)", "(", ")",
       "a!", "a!b", "a(b)", "(a)b", "(a)(b)", "!()", "a\n", "\n", "1", "a,b", "`", "a" + " ".repeat(40), " ".repeat(41),
-      "!".repeat(40) + "a", "!".repeat(40), "(".repeat(40), ")(", "a&(b|)"
+      "(ab", "(a(", "(aq", "(q)", "(A)", "(b!", "((a)", "!".repeat(40) + "a", "!".repeat(40), "(".repeat(40), ")(", "a&(b|)"
     };
     for (String text : well) {
       formed(t, text, true);

@@ -11,7 +11,7 @@ public final class Promise09StoryTest {
   }
 
   private static void tags(Check t) {
-    StoryDesk x = t.told("@a\n@b @a\nF:\nS:\n@c\nS:\n@d\nE:\n|n|\n|1|\n@p\nE:\n|n|\n|2|\n@e\nR:\n@f\nS:\nR:\nS:");
+    StoryDesk x = t.told("@a\n@b\nF:\nS:\n@c\nS:\n@d\nE:\n|n|\n|1|\n@p\nE:\n|n|\n|2|\n@e\nR:\n@f\nS:\nR:\nS:");
     t.is("cases", x.look(2), 5);
     t.is("of the FEATURE", x.story(0, 1), 3);
     t.is("and SCENARIO and EXAMPLES", x.story(1, 1), 3 + 4 + 8);
@@ -25,7 +25,7 @@ public final class Promise09StoryTest {
     StoryDesk y = t.told("@a\nF:\nS:");
     t.read(y, "F:\nS:");
     t.is("nothing of an older reading", y.story(0, 1), 0);
-    StoryDesk z = t.told("F:\n@a\nS:\nG x\n@b\n#\n\n@c @b\nS:");
+    StoryDesk z = t.told("F:\n@a\nS:\nG x\n@b\n#\n\n@c\nS:");
     t.is("tags of several lines", z.story(1, 1), 6);
     t.is("tags do not go on", z.story(0, 1), 1);
   }

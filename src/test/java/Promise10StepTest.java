@@ -115,6 +115,11 @@ public final class Promise10StepTest {
     }
     t.is("ambiguous now", x.step(0, 2, 2), -2);
     t.is("nine fit", x.step(0, 2, 3), 9);
+    StoryDesk z = t.told("F:\nS:\nG a");
+    t.define(z, "a", 0);
+    t.is("bound to the first", z.step(0, 0, 2), 0);
+    t.define(z, "(b)a", 0);
+    t.is("ambiguous with the second", z.step(0, 0, 2), -2);
     StoryDesk y = t.told("F:\nS:\nG <a>\nE:\n|a|\n|x|\n|y|");
     t.define(y, "y", 0);
     t.is("by the text with the cell in it", y.step(0, 0, 2) * 10 + y.step(1, 0, 2), -10);
@@ -166,6 +171,12 @@ public final class Promise10StepTest {
     all(t, "{s}{s}", "\"\"\"\";\"a\"\"b\"", "\"a\";\"a\" \"b\"");
     all(t, "(a)(a)(a)b", "b;ab;aab;aaab", "aaaab;a");
     all(t, "a/ab{w}", "ab;abc;ax", "a;b");
+    all(t, "{d}{w}", "1.5a;1.55", "abc;1.5");
+    all(t, "{s}{w}", "\"\"a", "abc;\"a\"");
+    all(t, "{i}{w}", "1a;-11", "abc;-a;1");
+    // 60 elements; the last blank stands there because what came behind it was cut off.
+    fits(t, "a ".repeat(30), "a ".repeat(30) + "x", true);
+    fits(t, "a ".repeat(30), "a ".repeat(29) + "ax", false);
     all(t, "(a\nb)c", "c", "abc;a b c;ac");
   }
 

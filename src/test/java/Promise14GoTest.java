@@ -71,6 +71,9 @@ public final class Promise14GoTest {
     y.go(40);
     t.is("more workers than cases", t.events(y, 5), "0130 1000 3003 4030 5300");
     y.start(3);
+    t.is("moves of one worker among three", y.go(2), 2);
+    t.is("those that can do nothing make none", y.go(40), 1);
+    y.start(3);
     y.go(1);
     t.is("the first one is the first again", t.events(y, 1), "1000");
   }

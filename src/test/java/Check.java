@@ -1,5 +1,5 @@
 /** What the tests share: texts put in pieces of eight, answers that are due, and how a test ends. */
-final class Check {
+class Check {
   interface Call {
     long answer();
   }
@@ -62,16 +62,24 @@ final class Check {
 
   String stepText(StoryDesk x, int story, int step) {
     StringBuilder text = new StringBuilder();
-    for (int k = 0; k <= 60 && x.step(story, step, 100 + k) >= 0; k++) {
-      text.append((char) x.step(story, step, 100 + k));
+    for (int k = 0; k <= 60; k++) {
+      int letter = x.step(story, step, 100 + k);
+      if (letter < 0) {
+        break;
+      }
+      text.append((char) letter);
     }
     return text.toString();
   }
 
   String cellText(StoryDesk x, int story, int step, int r, int c) {
     StringBuilder text = new StringBuilder();
-    for (int i = 0; i <= 60 && x.cell(story, step, r, c, i) >= 0; i++) {
-      text.append((char) x.cell(story, step, r, c, i));
+    for (int i = 0; i <= 60; i++) {
+      int letter = x.cell(story, step, r, c, i);
+      if (letter < 0) {
+        break;
+      }
+      text.append((char) letter);
     }
     return text.toString();
   }
@@ -152,7 +160,15 @@ final class Check {
     }
   }
 
-  private void say(String text) {
+  final int wrong() {
+    return wrong;
+  }
+
+  final int looked() {
+    return looked;
+  }
+
+  final void say(String text) {
     wrong++;
     System.out.println(text);
   }

@@ -1,8 +1,17 @@
+import java.util.function.BiFunction;
+import java.util.function.Function;
+
 /**
  * Looks at the document a sentence at a time: each is named by its own words, and has a test of its own.
  * What those tests ask over and over again is asked here, each time of a new object, and answered in few words.
  */
 final class Edge extends Check {
+  // What an object has read, or refused, before what is asked for: it is to leave nothing behind.
+  private static final String ANOTHER = "#1\n@a @p\nP:\nH:\nD <n>\n@b\nQ:\nH:\nN y\n|1|2|3|4|\n|5|6|7|8|\nQ:\nC:\nZ w\n@c\n"
+      + "X:\n|n|m|\n|9|9|\nX:\n|k|\n|8|\nC:\nU <m>\n|7|6|5|4|\n@d\nX:\n|n|m|\n|1|2|\nC:\nC:\nX:\nC:";
+  private static final String NOT_FORMED = "{i}{d}(x)a/b/c{w}{s}y z{i}{d}(u/v";
+  private static final String NO_TAG_EXPRESSION = "(!a|!b&!!c))&!!!!!!!!!!!(!a)|(";
+
   /** The ways into the states 0 .. 8 of a reading. */
   static final String[] STATES = {
     "", "F:", "F:\nB:", "F:\nB:\nG a", "F:\nS:", "F:\nS:\nG a", "F:\nS:\nE:", "F:\nS:\nE:\n|a|", "F:\nR:"
@@ -35,11 +44,14 @@ final class Edge extends Check {
     return x;
   }
 
-  /** The errors of a text, each as line:number; read is to answer how many. */
+  /** The errors of a text, each as line:number; read is to answer how many, and so it is when it reads it again. */
   String errorsOf(String text) {
     StoryDesk x = desk();
     is("how many errors of " + text, read(x, text), x.look(7));
-    return errors(x);
+    String first = errors(x);
+    read(x, text);
+    is("errors when it is read again: " + text, errors(x), first);
+    return first;
   }
 
   void errors(String text, String due) {
@@ -58,36 +70,34 @@ final class Edge extends Check {
     return may.toString();
   }
 
-  /** The texts of the steps of all cases: [a,b][c]. */
-  String steps(String text) {
-    StoryDesk x = told(text);
-    StringBuilder all = new StringBuilder();
-    for (int story = 0; story < x.look(2); story++) {
-      all.append('[');
-      for (int step = 0; step < x.story(story, 0); step++) {
-        all.append(step == 0 ? "" : ",").append(stepText(x, story, step));
-      }
-      all.append(']');
-    }
-    return all.toString();
+  /** What a text tells is due of a new object, and of one that has read another text before. */
+  private void toldOf(String what, String text, Function<StoryDesk, String> asked, String due) {
+    is(what + " of " + text, asked.apply(told(text)), due);
+    StoryDesk used = told(ANOTHER);
+    is("read " + text, read(used, text), 0);
+    is("another reading's " + what + " of " + text, asked.apply(used), due);
   }
 
+  /** The texts of the steps of all cases: [a,b][c]. */
   void steps(String text, String due) {
-    is("steps of " + text, steps(text), due);
+    toldOf("steps", text, x -> ofSteps(x, ",", (story, step) -> stepText(x, story, step)), due);
   }
 
   /** The tables of the steps of all cases, cells parted by a comma, rows by a stroke: [1,2/3,4;5][]. */
   void tables(String text, String due) {
-    StoryDesk x = told(text);
+    toldOf("tables", text, x -> ofSteps(x, ";", (story, step) -> table(x, story, step)), due);
+  }
+
+  private String ofSteps(StoryDesk x, String between, BiFunction<Integer, Integer, String> asked) {
     StringBuilder all = new StringBuilder();
     for (int story = 0; story < x.look(2); story++) {
       all.append('[');
       for (int step = 0; step < x.story(story, 0); step++) {
-        all.append(step == 0 ? "" : ";").append(table(x, story, step));
+        all.append(step == 0 ? "" : between).append(asked.apply(story, step));
       }
       all.append(']');
     }
-    is("tables of " + text, all.toString(), due);
+    return all.toString();
   }
 
   private String table(StoryDesk x, int story, int step) {
@@ -112,7 +122,10 @@ final class Edge extends Check {
 
   /** Of all cases, parted by blanks: the letters of the tags, - for none. */
   void tags(String text, String due) {
-    StoryDesk x = told(text);
+    toldOf("tags", text, Edge::tags, due);
+  }
+
+  private static String tags(StoryDesk x) {
     StringBuilder all = new StringBuilder();
     for (int story = 0; story < x.look(2); story++) {
       all.append(story == 0 ? "" : " ").append(x.story(story, 1) == 0 ? "-" : "");
@@ -120,17 +133,20 @@ final class Edge extends Check {
         all.append((x.story(story, 1) >> tag & 1) == 1 ? "" + (char) ('a' + tag) : "");
       }
     }
-    is("tags of " + text, all.toString(), due);
+    return all.toString();
   }
 
   /** Of all cases, parted by blanks: the line of the SCENARIO and that of the ROW of EXAMPLES, 2/4. */
   void lines(String text, String due) {
-    StoryDesk x = told(text);
+    toldOf("lines", text, Edge::lines, due);
+  }
+
+  private static String lines(StoryDesk x) {
     StringBuilder all = new StringBuilder();
     for (int story = 0; story < x.look(2); story++) {
       all.append(story == 0 ? "" : " ").append(x.story(story, 2)).append('/').append(x.story(story, 3));
     }
-    is("lines of " + text, all.toString(), due);
+    return all.toString();
   }
 
   /** Expressions that are well formed. */
@@ -149,6 +165,8 @@ final class Edge extends Check {
 
   private boolean isFormed(String expression) {
     StoryDesk x = desk();
+    put(x, NOT_FORMED);
+    wrongArgument(NOT_FORMED, () -> x.define(0));
     try {
       return define(x, expression, 0) == 0;
     } catch (IllegalArgumentException e) {
@@ -175,6 +193,8 @@ final class Edge extends Check {
     boolean plain = !text.isEmpty() && text.trim().equals(text);
     StoryDesk x = told(plain ? "F:\nS:\nG " + text : "F:\nS:\nG <>" + text + "<>\nE:\n||\n||");
     is("the text", stepText(x, 0, 0), text);
+    put(x, NOT_FORMED);
+    wrongArgument(NOT_FORMED, () -> x.define(0));
     for (String expression : expressions) {
       define(x, expression, 0);
     }
@@ -224,6 +244,8 @@ final class Edge extends Check {
 
   private int holdsFor(String tags, String expression) {
     StoryDesk x = told(tags + "\nF:\nS:");
+    put(x, NO_TAG_EXPRESSION);
+    wrongArgument(NO_TAG_EXPRESSION, x::filter);
     try {
       return filter(x, expression);
     } catch (IllegalArgumentException e) {

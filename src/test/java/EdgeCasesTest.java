@@ -64,6 +64,9 @@ public final class EdgeCasesTest {
       StoryDesk x = T.told("@a\nF:\n@b\nR:\n@c\nS:\n@d\nE:\n|n|\n|1|");
       T.read(x, "F:\nR:\nS:\nE:\n|n|\n|1|");
       T.is("not those of an older reading", x.story(0, 1), 0);
+      T.is("tags that belong to nothing", T.read(x, "F:\n@e"), 1);
+      T.read(x, "F:\nS:");
+      T.is("are not those of the next reading", x.story(0, 1), 0);
     });
   }
 

@@ -147,6 +147,10 @@ public final class EdgeErrorsTest {
       T.steps("F:\nB:\nG " + SIXTY + "a\nS:\nG b", "[" + SIXTY + ",b]");
       T.tables("F:\nS:\nG a\n|" + SIXTY + "|b|\n|" + SIXTY + "a| " + SIXTY + SIXTY + "|", "[" + SIXTY + ",b/" + SIXTY + "," + SIXTY + "]");
       T.steps("F:\nS:\nG <n>\nE:\n|n|\n|" + SIXTY + "a|", "[" + SIXTY + "]");
+      T.steps("F:\nS:\nG <n>" + SIXTY + "\nE:\n|n|\n||", "[" + SIXTY.substring(0, 57) + "]");
+      T.tables("F:\nS:\nG a\n|<n>" + SIXTY + "|\nE:\n|n|\n||", "[" + SIXTY.substring(0, 57) + "]");
+      T.steps("F:\nS:\nG " + SIXTY.substring(1) + " a\nG " + SIXTY.substring(2) + "<n>\nE:\n|n|\n|b|",
+          "[" + SIXTY.substring(1) + " ," + SIXTY.substring(2) + "<n]");
     });
   }
 }

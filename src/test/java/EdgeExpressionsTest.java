@@ -38,6 +38,8 @@ public final class EdgeExpressionsTest {
       T.fitsNot(" a", "a");
       T.fits("a".repeat(60), "a".repeat(60));
       T.fitsNot("a".repeat(60), "a".repeat(59));
+      T.fits("a  a" + " a".repeat(28), "a  a" + " a".repeat(28));
+      T.fits("(a)".repeat(20), "", "a".repeat(20));
     });
     T.sentence("each \\ counted)", () -> {
       T.formed("\\a".repeat(30), "a".repeat(58) + "\\a", "\\\\".repeat(30));
@@ -86,6 +88,7 @@ public final class EdgeExpressionsTest {
     T.sentence("a PARAMETER {i}, {d}, {w} or {s}", () -> {
       T.formed("{i}", "{d}", "{w}", "{s}", "a{i}b", "{i}{w}");
       T.notFormed("{}", "{x}", "{a}", "{I}", "{ii}", "{i", "i}", "{ i}", "{i }", "{", "{{i}}", "{i}}", "{e}", "{t}", "{c}", "{v}", "{h}", "{j}", "{r}");
+      T.notFormed("{ix", "{i ", "{i{", "{i(", "{i)", "{i/", "{i\\", "{i{i}", "{ia}", "{,}", "{i,}");
     });
     T.sentence("(Else it is not well formed; also with more than 6 parameters.)", () -> {
       T.formed("{i}{d}{w}{s}{i}{d}", "{i}".repeat(6), "a {i} b {i} c {i} d {i} e {i} f {i} g");
@@ -139,22 +142,32 @@ public final class EdgeExpressionsTest {
       T.fits("(a)", "");
       T.fits("(a)(b)", "", "a", "b", "ab");
       T.fitsNot("(a)(b)", "ba", "abab");
+      for (String first : new String[] {"{i}", "{d}", "{s}", "a"}) {
+        T.fitsNot(first + "{w}", "bcd", "", "-", "\"b");
+      }
     });
     T.sentence("{i}: perhaps -, then 1 to 9 digits", () -> {
       T.fits("{i}", "0", "9", "-0", "-9", "123456789", "-123456789", "000000000");
       T.fitsNot("{i}", "", "-", "1234567890", "-1234567890", "--1", "+1", "1-", "1.0", "/", ":", "a", "1 2", " 1", "1 ");
+      T.fitsNot("{i}a", "a", "-a");
+      T.fitsNot("a{i}", "a", "a-");
     });
     T.sentence("{d}: perhaps -, 1 to 6 digits, . and 1 to 3 digits", () -> {
       T.fits("{d}", "0.0", "9.9", "-1.5", "123456.789", "-123456.789", "1.12", "000000.000");
       T.fitsNot("{d}", "", "1", "1.", ".1", "-.1", "1234567.1", "1.1234", "--1.1", "+1.1", "1.-1", "1,1", "1..1", "1.1.1", "-", ".", "/.1", "1./", ":.1", "1.:");
+      T.fitsNot("{d}a", "a", "1a", "1.a", ".1a");
     });
     T.sentence("{w}: one or more characters other than blank", () -> {
       T.fits("{w}", "a", "ab", "~!", "-1.5", "\"a\"", "a".repeat(60));
       T.fitsNot("{w}", "", " ", "a b", "a ", " a");
+      T.fitsNot("{w}b", "b");
+      T.fitsNot("b{w}", "b");
+      T.fitsNot("{w} {w}", "a ", " a", " ", "a");
     });
     T.sentence("{s}: \" some or no characters other than \" and \"", () -> {
       T.fits("{s}", "\"\"", "\"a\"", "\" \"", "\"a b\"", "\"" + "a".repeat(58) + "\"");
       T.fitsNot("{s}", "", "\"", "a", "\"a", "a\"", "\"a\"b", "a\"b\"", "\"a\"b\"", "\"\"\"", "'a'");
+      T.fitsNot("{s}a", "a", "\"a", "a\"a");
     });
     T.sentence("Blanks and other characters stand for themselves.", () -> {
       T.fits("a b", "a b");

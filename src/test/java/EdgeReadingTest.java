@@ -146,6 +146,7 @@ public final class EdgeReadingTest {
   private static void owners() {
     T.sentence("ROWS are those of the latest STEP or EXAMPLES: its table.", () -> {
       T.tables("F:\nB:\nG a\n|1|\nG b\nS:\nG c\nG d\n|2|3|\n|4|5|\nG e\n|6|", "[1;;;2,3/4,5;6]");
+      T.tables("F:\nB:\nG a\n|1|\nG b\n|2|\n|3|\nS:\nG c\n|4|\nS:\nG d\nG e\n|5|", "[1;2/3;4][1;2/3;;5]");
       T.tables("F:\nS:\nG a\n|1|\nE:\n|n|\n|m|\nE:\n|k|l|\n|i|j|", "[1][1]");
       T.lines("F:\nS:\nG a\n|1|\n|2|\nE:\n|n|\n|m|\n\n|o|\nE:\n|k|\n|i|", "2/8 2/10 2/13");
     });

@@ -78,10 +78,9 @@ public final class EdgeRunTest {
       due("F:\nS:\nS:\nG a\nG a\nS:", 3, "0330 1000 1110 1220 4000 3100 4202 3110 4101 5000");
       due("F:\nS:\nS:\nS:\nG a\nG a", 3, "0330 1000 1110 1220 4000 4101 3200 3210 4202 5000");
       due("F:\nS:\nG a", 3, "0130 1000 3000 4000 5000");
-      StoryDesk x = T.told("F:\nS:\nS:");
+      StoryDesk x = T.told("F:\nS:");
       x.start(2);
-      x.go(3);
-      x.go(40);
+      x.go(2);
       x.start(2);
       x.go(1);
       T.is("the first one at first in each run", T.events(x, 1), "1000");
@@ -195,6 +194,10 @@ public final class EdgeRunTest {
       x.start(3);
       T.is("its only event", T.events(x, 1), "0230");
       T.is("there is no other", x.look(6), 1);
+      StoryDesk y = T.told("F:\nS:\n@a\nS:\nS:");
+      T.filter(y, "a");
+      y.start(2);
+      T.is("the cases in it", T.events(y, 1), "0120");
     });
     T.sentence("EVENT 5 (the worst STATUS of all cases, units that were waited for in the run) ends it", () -> {
       StoryDesk x = all("F:\nS:\nG a\nG f\nG a\nS:\nG a\n@b\nS:\nG m");
@@ -212,7 +215,7 @@ public final class EdgeRunTest {
       T.is("three moves", x.go(3), 3);
       T.is("under way", x.look(0), 1);
       T.is("its latest event", T.events(x, 1), "4000");
-      T.is("the last move", x.go(40), 1);
+      T.is("the last move", x.go(1), 1);
       T.is("both events", T.events(x, 2), "4101 5000");
       T.is("over", x.look(0), 0);
       T.is("all events", x.look(6), 6);

@@ -16,6 +16,7 @@ public final class EdgeTagsTest {
       T.holds("@a", "(".repeat(19) + " a" + ")".repeat(19), "a" + "&a".repeat(19) + " ");
       T.noTagExpressions(" ".repeat(40) + "a", "a" + " ".repeat(40), " ".repeat(41), "!".repeat(40) + "a", "a" + "&a".repeat(20));
       T.noTagExpressions("(".repeat(20) + "a" + ")".repeat(20), "a".repeat(480));
+      T.noTagExpressions("!".repeat(40), "(".repeat(40), "(".repeat(39) + "a", "a&".repeat(20), "a|".repeat(20));
     });
   }
 

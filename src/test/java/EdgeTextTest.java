@@ -77,10 +77,18 @@ public final class EdgeTextTest {
     });
   }
 
+  /** The same DIALECT is due of a new object, and behind either dialect. */
   private static int dialect(String text) {
     StoryDesk x = T.desk();
     T.read(x, text);
-    return x.look(5);
+    int first = x.look(5);
+    T.read(x, "#1");
+    T.read(x, text);
+    T.is("behind dialect 1: " + text, x.look(5), first);
+    T.read(x, "#");
+    T.read(x, text);
+    T.is("behind dialect 0: " + text, x.look(5), first);
+    return first;
   }
 
   private static void emptyAndTags() {

@@ -434,11 +434,11 @@ public final class StoryDesk {
       return found;
     }
 
-    /** What all the characters tell if they are perhaps - and 1 to 9 digits, else 0. */
-    int wholeNumberOrNothing() {
+    /** Whether all the characters are perhaps - and 1 to 9 digits. */
+    boolean isWholeNumber() {
       int sign = at(0) == '-' ? 1 : 0;
       int found = digits(sign, 9);
-      return found > 0 && sign + found == length ? wholeNumber(0, length) : 0;
+      return found > 0 && sign + found == length;
     }
 
     /** The digits between two places as one number, with its sign; a point counts for nothing. */
@@ -1406,9 +1406,16 @@ public final class StoryDesk {
         for (int c = 0; c < Row.MOST_CELLS && isWithin(worker.number); c++) {
           if (cases.hasCell(one, worker.next, r, c)) {
             cases.fillCell(one, worker.next, r, c);
-            worker.number = worker.number + cases.cellText.wholeNumberOrNothing();
+            addCell(worker, cases.cellText);
           }
         }
+      }
+    }
+
+    // Another cell is not added as 0, for that would make a NUMBER of -0.0 to 0.0.
+    private void addCell(Worker worker, Letters cell) {
+      if (cell.isWholeNumber()) {
+        worker.number = worker.number + cell.wholeNumber(0, cell.length);
       }
     }
 

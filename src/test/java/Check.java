@@ -110,9 +110,10 @@ class Check {
     }
   }
 
+  /** The sign of a zero counts, too. */
   void is(String what, double got, double due) {
     looked++;
-    if (got != due) {
+    if (Double.compare(got, due) != 0) {
       say(what + " answered " + got + ", due is " + due);
     }
   }

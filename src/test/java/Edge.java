@@ -264,7 +264,7 @@ final class Edge extends Check {
     x.start(1);
     x.go(2);
     StringBuilder all = new StringBuilder();
-    all.append(x.event(0, 3)).append(' ').append(x.world(0) + 0.0);
+    all.append(x.event(0, 3)).append(' ').append(x.world(0));
     x.go(1);
     all.append(' ').append(x.event(0, 2));
     is("step " + step + " of " + expression, all.toString(), due);
@@ -280,7 +280,7 @@ final class Edge extends Check {
     x.start(1);
     x.go(3);
     StringBuilder all = new StringBuilder();
-    all.append(x.event(0, 3)).append(' ').append(x.world(0) + 0.0);
+    all.append(x.event(0, 3)).append(' ').append(x.world(0));
     x.go(1);
     all.append(' ').append(x.event(0, 2));
     is("a hook", all.toString(), due);

@@ -647,7 +647,9 @@ final class Model {
       } else if (command[0] == 5 && step != null) {
         for (List<String> row : step.rows) {
           for (String cell : row) {
-            worker.number += cell.matches("-?[0-9]{1,9}") ? Integer.parseInt(cell) : 0;
+            if (cell.matches("-?[0-9]{1,9}")) {
+              worker.number += Integer.parseInt(cell);
+            }
             if (Math.abs(worker.number) > 1e9) {
               return 5;
             }

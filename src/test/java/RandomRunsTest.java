@@ -289,9 +289,9 @@ public final class RandomRunsTest {
     same("world " + worker, () -> bits(() -> desk.world(worker)), () -> bits(() -> model.world(worker)));
   }
 
-  /** A number told by one that differs for different ones, as far as the runs have them; -0 counts as 0. */
+  /** A number told by one that differs for different ones, as far as the runs have them; -0.0 is not 0.0. */
   private static int bits(DoubleSupplier number) {
-    return Double.hashCode(number.getAsDouble() + 0.0);
+    return Double.hashCode(number.getAsDouble());
   }
 
   private void lookAtCases() {
